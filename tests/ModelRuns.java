@@ -37,6 +37,7 @@ public final class ModelRuns {
         Model m = new Model();
         List<String> story = new ArrayList<>();
         List<int[]> waiting = new ArrayList<>();
+        boolean read = false;
         for (int k = 0; k < 512; k++) {
             int which = k < 3 ? 5 : random.nextInt(CALLS.length);
             String name = CALLS[which].substring(0, CALLS[which].indexOf(' '));
@@ -45,9 +46,12 @@ public final class ModelRuns {
                 name = "feed";
                 which = 1;
                 a = waiting.remove(0);
-                if (waiting.isEmpty()) {
-                    waiting = new ArrayList<>();
-                }
+                read = waiting.isEmpty();
+            } else if (read) {
+                name = "text";
+                which = 2;
+                a = new int[] {};
+                read = false;
             } else if (name.equals("text") && random.nextInt(4) > 0) {
                 waiting = fed(Texts.of(random));
             } else if (name.equals("feed") && random.nextInt(8) > 0) {
@@ -166,7 +170,7 @@ public final class ModelRuns {
                 case "count": return new int[] {in(r, 0, 3)};
                 case "feed": return new int[] {in(r, 1, 5), in(r, 0, 255), 'a', ' ', in(r, 0, 255), ';'};
                 case "text": case "image": case "back": return new int[] {};
-                case "force": return new int[] {in(r, 0, 5)};
+                case "force": return new int[] {r.nextInt(3) > 0 ? in(r, 1, 2) : in(r, 0, 5)};
                 case "asks": return new int[] {in(r, 0, 2), head(r), 10 * in(r, 0, 9) + in(r, 0, 1)};
                 case "head": return new int[] {in(r, 0, 5), in(r, 0, 9)};
                 case "set": return set(r);
@@ -218,7 +222,7 @@ public final class ModelRuns {
     /** Texts of chance, most of them without a fault. */
     private static final class Texts {
         static String of(Random r) {
-            String text = "builds " + or(r, 2) + ";fades " + (r.nextInt(3) > 0 ? r.nextInt(30) : or(r, 1)) + " ;\nbends " + or(r, 1) + ";";
+            String text = "builds " + or(r, r.nextInt(3)) + ";fades " + (r.nextInt(3) > 0 ? r.nextInt(30) : or(r, r.nextInt(2))) + " ;\nbends " + or(r, 1) + ";";
             if (r.nextInt(4) == 0) {
                 text = "builds " + deep(r) + "; fades 10; bends 100;";
             }
