@@ -142,6 +142,11 @@ public final class ModelRuns {
             if (a.length > 0 && r.nextInt(12) == 0) {
                 a[r.nextInt(a.length)] = ODD[r.nextInt(ODD.length)];
             }
+            if (r.nextInt(40) == 0) {
+                for (int i = 0; i < a.length; i++) {
+                    a[i] = ODD[r.nextInt(ODD.length)];
+                }
+            }
             return a;
         }
 
