@@ -464,12 +464,12 @@ public final class RoundAndRound {
         if (!isTurns(n) || !isSpeedPace(speedPace) || !within(seconds, 0, MOST_CELLS)) {
             return ILL_TOLD;
         }
-        Sheet taken = sheetAt(s);
-        taken.begin(INTS, seconds);
+        Sheet row = sheetAt(s);
+        row.begin(INTS, seconds);
         thinkTurned(headAt(h), law(), n, speedPace / 10);
         for (int i = 0; i < seconds; i++) {
             thought.step(law(), speedPace % 10, OPEN);
-            taken.put(i, thought.aside);
+            row.put(i, thought.aside);
         }
         return seconds;
     }
@@ -666,10 +666,10 @@ public final class RoundAndRound {
     }
 
     /** The first second of what is thought, from here on, that a sheet tells otherwise. */
-    private int firstOtherwise(Sheet told, Text law, int pace) {
-        for (int i = 0; i < told.size; i++) {
+    private int firstOtherwise(Sheet row, Text law, int pace) {
+        for (int i = 0; i < row.size; i++) {
             thought.step(law, pace, OPEN);
-            if (told.get(i) != thought.aside) {
+            if (row.get(i) != thought.aside) {
                 return i;
             }
         }
