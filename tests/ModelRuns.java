@@ -799,7 +799,7 @@ public final class ModelRuns {
             int seconds = (fw / 1000 + sp % 10 - 1) / (sp % 10);
             for (int w = 0; w <= 60; w++) {
                 Person t = p.thought().turned(now(), n, sp / 10).waits(now(), w, 1);
-                if (w + seconds <= 60 && !t.walks(now(), seconds, sp % 10, 1).down && Math.abs(t.aside) <= fw % 1000) {
+                if (seconds <= 60 && !t.walks(now(), seconds, sp % 10, 1).down && Math.abs(t.aside) <= fw % 1000) {
                     return what == 0 ? w : w + seconds;
                 }
             }

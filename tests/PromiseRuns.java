@@ -706,10 +706,34 @@ public final class PromiseRuns {
         z.set(0, 0, 199);
         due("18: wait 50", z.race(0, 0, 11, 1014, 0), 50);
         due("18: wait 50 and a second", z.race(0, 0, 11, 1014, 1), 51);
-        due("18: together 61", z.race(0, 0, 11, 1013, 1), -1);
+        due("18: wait 60", z.race(0, 0, 11, 1013, 0), 60);
+        due("18: wait 60 and a second", z.race(0, 0, 11, 1013, 1), 61);
+        due("18: wait 61 is too long", z.race(0, 0, 11, 1012, 0), -1);
         z.set(0, 0, 198);
         due("18: together 60", z.race(0, 0, 11, 1013, 1), 60);
         due("18: wait 59", z.race(0, 0, 11, 1013, 0), 59);
+        racingLong();
+    }
+
+    /** 60 bounds the seconds on one's feet and WAIT each by itself, not both together. */
+    private static void racingLong() {
+        RoundAndRound x = by("builds 1;fades 1;bends 0;");
+        int[] sense = {799, 800, 810, 1421, 1422};
+        int[] wait = {0, 1, 2, 60, -1};
+        for (int i = 0; i < sense.length; i++) {
+            int together = wait[i] < 0 ? -1 : wait[i] + 60;
+            x.set(0, 0, sense[i]);
+            due("18: ahead of 60 seconds, from " + sense[i], x.race(0, 0, 19, 540000, 0), wait[i]);
+            due("18: with 60 seconds, from " + sense[i], x.race(0, 0, 19, 540000, 1), together);
+            due("18: ahead of 61 seconds, from " + sense[i], x.race(0, 0, 11, 61000, 0), -1);
+            due("19: with 60 seconds, from " + sense[i], x.wins(0, 19, 540000, 0), wait[i] < 0 ? -1 : 0);
+            due("19: that with 60 seconds, from " + sense[i], x.wins(0, 19, 540000, 1), together);
+            due("19: with 61 seconds, from " + sense[i], x.wins(0, 11, 61000, 1), -1);
+        }
+        x.head(0, 0);
+        x.set(1, 0, 1421);
+        due("19: 120 together is less than none", x.wins(0, 19, 540000, 0), 1);
+        due("19: 120 together", x.wins(0, 19, 540000, 1), 120);
     }
 
     private static void winning() {

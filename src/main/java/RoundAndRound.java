@@ -680,12 +680,16 @@ public final class RoundAndRound {
         return roundedUp(farWide / 1000, speedPace % 10);
     }
 
+    /** The least WAIT, or -1; only the seconds on one's feet are bounded by 60, not WAIT and these together. */
     private int raceWait(Head one, int n, int speedPace, int farWide) {
         int seconds = raceSeconds(speedPace, farWide);
+        if (!isSeconds(seconds)) {
+            return NONE;
+        }
         ahead.become(one);
         ahead.standAtStart();
         ahead.spin(law(), n, speedPace / 10);
-        for (int wait = 0; wait <= MOST_SECONDS - seconds; wait++) {
+        for (int wait = 0; wait <= MOST_SECONDS; wait++) {
             thought.become(ahead);
             thought.goOn(law(), seconds, speedPace % 10, OPEN);
             if (!thought.down && Math.abs(thought.aside) <= farWide % 1000) {
