@@ -61,6 +61,7 @@ public final class BoundaryRuns {
         undoes();
         fines();
         races();
+        eyesOpen();
         wins();
         paces();
         roses();
@@ -80,6 +81,9 @@ public final class BoundaryRuns {
         copies();
         headsBy();
         taken();
+        lastOnesTried();
+        lastOnesTold();
+        lastOnesTruly();
         System.out.println(wrong == 0 ? "all answers are as due" : wrong + " answers are not as due");
         if (wrong != 0) {
             System.exit(1);
@@ -390,6 +394,24 @@ public final class BoundaryRuns {
             due("4: KEY for a ONE, " + key, fault("builds " + key + ";"), 7);
             due("4: KEY behind *, " + key, fault("builds 1*" + key + ";"), 9);
         }
+        for (char c = 'a'; c <= 'z'; c++) {
+            due("4: letter " + c + " behind a WORD", fault("builds cake" + c + ";"), 7);
+            due("4: letter " + c + " ahead of a WORD", fault("builds " + c + "cake;"), 7);
+        }
+        for (String first : new String[] {"(", "-", "not ", "1+", "1-", "1*", "1<", "1=", "1 or ", "1 and ", "(1)", "cake "}) {
+            due("4: no WORD behind " + first, fault("builds " + first + "x 1;fades 1;bends 1;"), 7 + first.length());
+            due("4: no WORD alone behind " + first, fault("builds " + first + "x;fades 1;bends 1;"), 7 + first.length());
+            due("4: no NUMBER behind " + first, fault("builds " + first + "12345 1;fades 1;bends 1;"), 7 + first.length());
+            due("4: no byte behind " + first, fault("builds " + first + "? 1;fades 1;bends 1;"), 7 + first.length());
+        }
+        for (int part = 0; part < 3; part++) {
+            String[] keys = {"builds 1;", "fades 1;", "bends 1;"};
+            String ahead = part == 0 ? "" : part == 1 ? keys[0] : keys[0] + keys[1];
+            due("4: no WORD for a KEY " + part, fault(ahead + "x 1;"), ahead.length());
+            due("4: no WORD behind a KEY " + part, fault(ahead + keys[part].replace("1", "x")), ahead.length() + keys[part].length() - 2);
+            due("4: no WORD for a ; " + part, fault(ahead + keys[part].replace(";", "x")), ahead.length() + keys[part].length() - 1);
+            due("4: a NAME for a ; " + part, fault(ahead + keys[part].replace(";", "eyes")), ahead.length() + keys[part].length() - 1);
+        }
         due("4: blanks between", fault("\n builds\n1\n;fades 1 ;bends( 1 ) ;\n"), -1);
         due("4: no blanks", fault("builds(1);fades(1);bends(1);"), -1);
     }
@@ -585,6 +607,12 @@ public final class BoundaryRuns {
         due("4: 0 or 7", saidOf("0 or 7"), 1);
         due("4: 7 or 0", saidOf("7 or 0"), 1);
         due("4: 0 or 0", saidOf("0 or 0"), 0);
+        for (String none : new String[] {"not 1", "not -1", "0 or 0", "0 and 1", "1 and 0", "1<0", "1=0", "0<0"}) {
+            due("4: no less than 0 is " + none, saidOf("(" + none + ")+5"), 5);
+        }
+        for (String one : new String[] {"not 0", "7 or 0", "0 or -7", "7 and -7", "-7<7", "7=7", "-7=-7"}) {
+            due("4: no more than 1 is " + one, saidOf("(" + one + ")+5"), 6);
+        }
         due("4: 3<3", saidOf("3<3"), 0);
         due("4: 2<3", saidOf("2<3"), 1);
         due("4: 3<2", saidOf("3<2"), 0);
@@ -1152,6 +1180,12 @@ public final class BoundaryRuns {
         RoundAndRound y = by("builds 0;fades 0;bends 0;", 0, 0);
         y.set(0, 0, 9);
         due("16: all alike, the fewest", y.undo(0, 1, 0), 0);
+        RoundAndRound w = by("builds 1;fades 0;bends 0;", 0, 0);
+        for (int side : new int[] {1, -1}) {
+            w.set(0, 0, side);
+            due("16: one to the side that undoes", w.undo(0, 1, 0), 1);
+            due("16: that to the side that undoes", w.undo(0, 1, 1), 0);
+        }
         RoundAndRound z = by("builds 0;fades 1;bends 0;", 0, 0);
         z.set(0, 0, 120);
         due("16: alike from 21 on, the fewest", z.undo(0, 1, 0), 21);
@@ -1277,6 +1311,39 @@ public final class BoundaryRuns {
         x.set(0, 0, 0);
         due("18: also one who is DOWN", x.race(0, 0, 11, 1000, 0), 0);
         due("19: also one who is DOWN", x.wins(0, 11, 1000, 0), 0);
+    }
+
+    /** In thought eyes are open all the time. */
+    private static void eyesOpen() {
+        RoundAndRound x = by("builds eyes*10;fades 0;bends eyes*100;", 0, 0);
+        due("18: eyes open", x.race(0, 5, 11, 1005, 0), 0);
+        due("18: eyes open, one less wide", x.race(0, 5, 11, 1004, 0), -1);
+        due("19: eyes open", x.wins(5, 11, 1005, 0), 0);
+        due("19: eyes open, one less wide", x.wins(5, 11, 1004, 0), -1);
+        due("20: eyes open", x.pace(0, 5, 1, 9, 1), 5);
+        due("21: eyes open", x.roses(0, 11, 1, 7, 0), 7);
+        due("15: eyes open", by("builds eyes*100;fades 0;bends 0;", 0, 0).stands(0, 1), 7);
+        x.set(0, 0, 20);
+        due("16: eyes open", x.undo(0, 1, 0), 2);
+        x.sheet(0, 2, 2);
+        x.cell(0, 0, 5);
+        x.cell(0, 1, 10);
+        due("22: eyes open", x.judge(0, 0, 3, 11), -1);
+        due("23: eyes open", x.turned(0, 0, 11, 1), 3);
+        due("24: eyes open", x.kinds(0, 0, 3, 11, 1), 1023);
+        due("25: eyes open", x.laws(0, 0, 3, 11), 2);
+        due("26: eyes open", x.whose(0, 3, 11), 1);
+        x.film(1, 0, 3, 11, 2);
+        x.copy(1, 0, 0, 0, 2);
+        due("27: eyes open", x.judge(0, 0, 3, 11), -1);
+        RoundAndRound y = by("builds 100;fades eyes*50;bends 100;", 0, 0);
+        due("18: eyes open, fading while turning and waiting", y.race(0, 1, 11, 1003, 0), 1);
+        due("18: eyes open, fading on one's feet", y.race(0, 1, 11, 2007, 0), 0);
+        due("20: eyes open, fading", y.pace(0, 1, 9, 18, 1), 7);
+        due("21: eyes open, fading", y.roses(0, 11, 2, 7, 1), 0);
+        due("17: eyes open, fading", y.fine(0, 1), 0);
+        y.set(0, 0, 8);
+        due("17: eyes open, fading", y.fine(0, 5), 1);
     }
 
     /** WAITS are 0 .. 60, ahead of 60 seconds too. */
@@ -1580,6 +1647,14 @@ public final class BoundaryRuns {
             due("24: no CAKE", x.kinds(0, 0, 1, 11, 2), 0);
             due("24: no KIND", x.kinds(0, 0, 1, 11, 0), 0);
         }
+        for (int i = 0; i < SPEED_PACES.length; i++) {
+            RoundAndRound x = speeds();
+            x.sheet(0, 2, 1);
+            x.cell(0, 0, 5 * AT_SPEEDS[i]);
+            due("24: KINDS 1, 3 by speed 1, 1 by speed 9, " + SPEED_PACES[i], x.kinds(0, 0, 5, SPEED_PACES[i], 0), i < 2 ? 10 : 2);
+            due("24: any MORE by " + SPEED_PACES[i], x.kinds(0, 0, 5, SPEED_PACES[i], 1), 1023);
+            due("24: any CAKE by " + SPEED_PACES[i], x.kinds(0, 0, 5, SPEED_PACES[i], 2), 1023);
+        }
         int[] aside = {200, 100, (375 - 18) / 2, 50, (375 - 3) / 2, (400 + 45) / 2};
         for (int kind = 0; kind < 6; kind++) {
             RoundAndRound x = by("builds 400;fades 10-10*eyes;bends 500;", 5 - kind, 5);
@@ -1627,6 +1702,13 @@ public final class BoundaryRuns {
         due("25: TEXT 0 of six", x.laws(0, 0, 1, 11), 1);
         x.cell(0, 0, 9);
         due("25: TEXT 0 of six, speed 9", x.laws(0, 0, 1, 91), 1);
+        for (int i = 0; i < SPEED_PACES.length; i++) {
+            RoundAndRound y = speeds();
+            y.force(0);
+            y.sheet(0, 2, 1);
+            y.cell(0, 0, 10 * AT_SPEEDS[i]);
+            due("25: TEXT 1 by " + SPEED_PACES[i], y.laws(0, 0, 10, SPEED_PACES[i]), 2);
+        }
         due("25: THE LAW stays", x.count(2), 0);
         x.sheet(0, 0, 0);
         due("25: all six of a row of none", x.laws(0, 0, 40, 99), 63);
@@ -1662,6 +1744,14 @@ public final class BoundaryRuns {
             for (int n : new int[] {-40, 40}) {
                 x.cell(0, 0, h * 5 + n);
                 due("26: HEAD " + h + ", n " + n, x.whose(0, n, 11), 1 << h);
+            }
+        }
+        for (int i = 0; i < SPEED_PACES.length; i++) {
+            for (int n : new int[] {-40, -1, 1, 40}) {
+                x.cell(0, 0, n * AT_SPEEDS[i]);
+                due("26: the first by " + SPEED_PACES[i] + ", n " + n, x.whose(0, n, SPEED_PACES[i]) & 1, 1);
+                x.cell(0, 0, n * AT_SPEEDS[i] + 1);
+                due("26: not the first by " + SPEED_PACES[i] + ", n " + n, x.whose(0, n, SPEED_PACES[i]) & 1, 0);
             }
         }
         RoundAndRound none = new RoundAndRound();
@@ -1766,6 +1856,10 @@ public final class BoundaryRuns {
                 }
             }
         }
+        RoundAndRound z = by("builds 0;fades 0;bends 500+eyes*100;", 0, 0);
+        z.set(0, 0, 10);
+        due("28: eyes 0 while shut", z.drawn(0, 0, 60, 1001, 0), 300);
+        due("28: eyes 1 while open", z.drawn(0, 0, 60, 1, 0), 360);
         RoundAndRound y = by("builds 0;fades eyes*100;bends 100;", 0, 0);
         y.set(0, 0, 10);
         due("28: eyes shut, nothing fades", y.drawn(0, 0, 60, 1001, 0), 60);
@@ -1885,6 +1979,15 @@ public final class BoundaryRuns {
         x.force(2);
         x.head(0, 0);
         x.head(3, 9);
+        for (int h = 3; h < 5; h++) {
+            x.set(h, 0, 700);
+            x.set(h, 1, 8);
+            x.set(h, 2, 98);
+            x.walk(h, 1, 11);
+            x.set(h, 0, 9998);
+            x.walk(h, 1, 11);
+            due("31: one who came since is DOWN", x.told(h, 7), 1);
+        }
         x.sheet(3, 1, 7);
         read(x, ";");
         read(x, HALVES);
@@ -2269,5 +2372,106 @@ public final class BoundaryRuns {
         x.walk(4, 1, 11);
         due("36: the last is DOWN", x.taken(9, 6), 1);
         due("36: the last", x.taken(4, 4), 4);
+    }
+
+    // ---- the last HEAD of five, by the last TEXT of six
+
+    /** HEAD 4 has SENSE 700 and builds 10, the others have SENSE 0 and build 5; TEXT 5 is THE LAW; SHEET 0 tells 72. */
+    private static RoundAndRound lastOnes() {
+        RoundAndRound x = new RoundAndRound();
+        for (int t = 1; t <= 4; t++) {
+            due("4: a TEXT ahead of the last", read(x, "builds " + t + ";fades 2;bends " + t + ";"), t);
+        }
+        due("4: the last TEXT", read(x, "builds 5+cake*5;fades used;bends 100;"), 5);
+        x.force(5);
+        for (int h = 0; h < 5; h++) {
+            x.head(0, 0);
+        }
+        x.set(4, 0, 700);
+        x.set(4, 1, 1);
+        x.sheet(0, 2, 1);
+        x.cell(0, 0, 72);
+        return x;
+    }
+
+    private static void lastOnesTried() {
+        RoundAndRound x = lastOnes();
+        due("6: the last", x.asks(0, 4, 0), 10);
+        due("6: the first", x.asks(0, 0, 0), 5);
+        due("14: the last", x.ends(4, 2, 11, 1, 1), 72);
+        due("14: the last, behind a WAIT", x.ends(4, 2, 6011, 1, 1), 72);
+        due("14: the first", x.ends(0, 2, 11, 1, 1), 1);
+        due("15: the last", x.stands(4, 1), 9);
+        due("15: the first", x.stands(0, 1), 40);
+        due("16: the last", x.undo(4, 1, 1), 300);
+        due("16: the first", x.undo(0, 1, 1), 0);
+        due("17: the last", x.fine(4, 700), -1);
+        due("17: the first", x.fine(0, 700), 0);
+        due("18: the last", x.race(4, 2, 11, 1072, 0), 0);
+        due("18: the last, one less wide", x.race(4, 2, 11, 1071, 0), -1);
+        due("18: the first", x.race(0, 2, 11, 1001, 0), 0);
+        due("19: the first", x.wins(2, 11, 1001, 0), 0);
+        due("20: the last", x.pace(4, 2, 1, 9, 1), 72);
+        due("20: the first", x.pace(0, 2, 1, 9, 1), 1);
+        due("21: the last", x.roses(4, 11, 1, 75, 0), 5);
+        due("21: the first", x.roses(0, 11, 1, 75, 0), 40);
+        due("28: the last", x.drawn(0, 4, 1, 11, 0), 70);
+        due("28: the first", x.drawn(0, 0, 1, 11, 0), 0);
+        due("29: the last", x.odds(0, 101, 4, 11, 69, 0), 0);
+        due("29: the last, one more wide", x.odds(0, 101, 4, 11, 70, 0), 1);
+        due("29: the first", x.odds(0, 101, 0, 11, 0, 0), 1);
+        long[] none = {x.told(5, 0), x.set(5, 0, 0), x.turn(5, 0, 1), x.rest(5, 0, 1), x.walk(5, 0, 11), x.up(5), x.ends(5, 0, 11, 0, 0),
+            x.stands(5, 1), x.undo(5, 1, 0), x.fine(5, 1), x.race(5, 0, 11, 1000, 0), x.pace(5, 0, 1, 1, 0), x.roses(5, 11, 0, 0, 0),
+            x.drawn(0, 5, 0, 11, 0)};
+        for (int i = 0; i < none.length; i++) {
+            due("8 .. 28: none behind the last, call " + i, none[i], NO_HEAD);
+        }
+        due("6: none behind the last", x.asks(0, 5, 0), BAD);
+        due("29: none behind the last", x.odds(0, 101, 5, 11, 0, 0), NO);
+    }
+
+    private static void lastOnesTold() {
+        RoundAndRound x = lastOnes();
+        due("22: the last", x.judge(0, 4, 2, 11), -1);
+        due("22: the first", x.judge(0, 0, 2, 11), 0);
+        due("23: the last", x.turned(0, 4, 11, 1), 2);
+        due("23: to the left", x.turned(0, 4, 11, 0), 1);
+        due("23: the first", x.turned(0, 0, 11, 1), -100);
+        due("24: the last", x.kinds(0, 4, 2, 11, 2), 2);
+        due("24: the first", x.kinds(0, 0, 2, 11, 2), 0);
+        due("25: the last", x.laws(0, 4, 2, 11), 32);
+        due("25: the first", x.laws(0, 0, 2, 11), 0);
+        due("26: the last", x.whose(0, 2, 11), 16);
+        due("27: the last", x.film(1, 4, 2, 11, 1), 1);
+        due("27: as told", x.judge(1, 4, 2, 11), -1);
+        due("27: not of the first", x.judge(1, 0, 2, 11), 0);
+        x.cell(0, 0, 62);
+        due("23: the last, to the left", x.turned(0, 4, 11, 1), -8);
+        int[] none = {x.judge(0, 5, 0, 11), x.turned(0, 5, 11, 0), x.kinds(0, 5, 0, 11, 0), x.laws(0, 5, 0, 11), x.film(0, 5, 0, 11, 0)};
+        for (int i = 0; i < none.length; i++) {
+            due("22 .. 27: none behind the last, call " + i, none[i], NOBODY);
+        }
+    }
+
+    private static void lastOnesTruly() {
+        RoundAndRound x = lastOnes();
+        due("10: the last", x.turn(4, 2, 1), 720);
+        due("11: the last", x.rest(4, 1, 1), 713);
+        due("12: the last", x.walk(4, 1, 11), 71);
+        due("30: the last, too", x.image(), 5);
+        due("13: the last", x.up(4), 71);
+        due("8: the last", x.set(4, 0, 1), 706);
+        for (int h = 0; h < 4; h++) {
+            for (int what = 0; what < 8; what++) {
+                due("9: the others are as they were, " + h + ", " + what, x.told(h, what), 0);
+            }
+        }
+        x.force(1);
+        due("31: the last, too", x.back(), 5);
+        due("31: THE LAW, the last TEXT", x.count(2), 5);
+        int[] last = {0, 0, 706, 1, 1, 1, 71, 0, 800};
+        for (int what = 0; what < 9; what++) {
+            due("31: the last, " + what, x.told(4, what), last[what]);
+        }
     }
 }
