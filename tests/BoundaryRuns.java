@@ -39,6 +39,7 @@ public final class BoundaryRuns {
         grammar();
         openOnes();
         textsFull();
+        textsBehindFaults();
         forces();
         asksRefused();
         asksSaid();
@@ -506,6 +507,22 @@ public final class BoundaryRuns {
         }
         due("5: none behind the last of six", x.force(6), BAD);
         due("5: THE LAW stays", x.count(2), 5);
+    }
+
+    /** What a FAULT left unread or half read counts for nothing in the TEXT that comes next. */
+    private static void textsBehindFaults() {
+        String[] faults = {"builds 1;fades 1;bends not not not 1", "builds 0;fades -1;bends -1*-1*0+", "builds not not 1+1-1*1<1 and 0 or 0;fades !",
+            "builds (((((", "builds -----", "builds not not not not not", "builds ((((((1", "12345", "builds 7;fades 8;bends 9; 1"};
+        for (String text : faults) {
+            RoundAndRound x = new RoundAndRound();
+            x.head(0, 0);
+            due("4: a FAULT in " + text, read(x, text) <= -100 ? 1 : 0, 1);
+            due("4: a TEXT behind " + text, read(x, "builds 5;fades 6;bends (((((7)))));"), 1);
+            x.force(1);
+            due("4: builds, behind " + text, x.asks(0, 0, 0), 5);
+            due("4: fades, behind " + text, x.asks(1, 0, 0), 6);
+            due("4: bends, behind " + text, x.asks(2, 0, 0), 7);
+        }
     }
 
     private static void forces() {
